@@ -18,7 +18,10 @@ public final class TrackFusion {
     private static final int MERGING_VELOCITY = 16;
     private static final int QUALITY_SIGNS = 8;
 
-    /** In 512 calls a history can't come near to this: half of them are reports, and each batch adds one sign, but for 60 at most. */
+    /**
+     * More than 512 calls can fill: they process 256 batches at most, each of which adds one sign, and one more for
+     * each of the 59 other tracks that may be merged into this one.
+     */
     private static final int HISTORY_ROOM = 512;
     private static final String SIGNS = "nhxlmg";
     private static final char BEGUN = 'n';

@@ -18,6 +18,7 @@ public final class TracksTest {
         oneTrackTakesInSeveral();
         mergingLooksAtTheLaterTime();
         mergingLooksAtVelocities();
+        mergingLooksAtBothVelocities();
         mergedHitsConfirm();
         mergedTracksDoNotChange();
         tracksThatAreNotThere();
@@ -25,6 +26,7 @@ public final class TracksTest {
         predictionsAreRoundedDown();
         timesOfPredictions();
         qualityLooksAtEightSigns();
+        aHistoryIsAsLongAsTheCallsAllow();
         signsAreCounted();
         theNearestTrack();
         theNearestTrackOfWrongPlaces();
@@ -222,6 +224,24 @@ public final class TracksTest {
         }
     }
 
+    /** Each row: the velocities of two tracks, and whether they are alike enough. */
+    private static void mergingLooksAtBothVelocities() {
+        int[][] rows = {{10, 0, -6, 0, 1}, {10, 0, -7, 0, 0}, {-10, 0, 6, 0, 1}, {-10, 0, 7, 0, 0}, {0, 8, 0, -8, 1},
+            {0, 8, 0, -9, 0}, {10, 10, 10, 10, 1}, {-10, -10, -10, -10, 1}, {10, -10, 10, -10, 1}, {9, 9, 1, 1, 1},
+            {9, 9, 1, 0, 0}, {9, 9, 0, 1, 0}, {10, -3, 2, 5, 1}, {10, -3, 2, 6, 0}};
+        for (int[] row : rows) {
+            TrackFusion fusion = Runs.with(30, 16, 16, 9, 0);
+            Runs.processAt(fusion, 0, 0, 0, 60, 0);
+            Runs.processAt(fusion, 16, row[0], row[1], 60 + row[2], row[3]);
+            CHECKS.due("velocity of 0", fusion.stateOf(0, 2) + " " + fusion.stateOf(0, 3), row[0] + " " + row[1]);
+            CHECKS.due("velocity of 1", fusion.stateOf(1, 2) + " " + fusion.stateOf(1, 3), row[2] + " " + row[3]);
+            fusion.setNearness(100);
+            Runs.processAt(fusion, 16, 900, 900);
+            CHECKS.due("status(1) at " + row[0] + " " + row[1] + ", " + row[2] + " " + row[3], fusion.status(1),
+                row[4] == 1 ? 'm' : 't');
+        }
+    }
+
     private static void mergedHitsConfirm() {
         TrackFusion fusion = new TrackFusion();
         Runs.processAt(fusion, 5, 0, 0);
@@ -342,6 +362,18 @@ public final class TracksTest {
         CHECKS.due("quality of a merged one", fusion.quality(2), 1);
         Runs.processAt(fusion, 10, 500, 500);
         CHECKS.due("n, x, h", fusion.quality(1), 2);
+    }
+
+    /** With 512 calls in all. */
+    private static void aHistoryIsAsLongAsTheCallsAllow() {
+        TrackFusion fusion = new TrackFusion();
+        for (int i = 0; i < 254; i++) {
+            Runs.processAt(fusion, i, 5, 5);
+        }
+        CHECKS.due("historyLength(0)", fusion.historyLength(0), 254);
+        CHECKS.due("historyAt(0, 253)", fusion.historyAt(0, 253), 'h');
+        CHECKS.due("countOf('h')", fusion.countOf('h'), 253);
+        CHECKS.due("isBalanced()", fusion.isBalanced(), true);
     }
 
     private static void signsAreCounted() {
