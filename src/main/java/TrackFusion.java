@@ -621,10 +621,11 @@ public final class TrackFusion {
         }
 
         private static int pushed(int velocity, int push, int passed) {
-            if (passed <= 0) {
+            int divisor = WHOLE * passed;
+            if (divisor <= 0) {
                 return velocity;
             }
-            int result = velocity + push / (WHOLE * passed);
+            int result = velocity + push / divisor;
             return Math.max(-FASTEST, Math.min(FASTEST, result));
         }
 
