@@ -57,6 +57,7 @@ public final class FaceTest {
         nothingElseIsVisible();
         classesInsideAreStaticAndFew();
         theTextKeepsToTheLanguage();
+        theCallsStandUnderTheirHeadings();
         CHECKS.end("FaceTest");
     }
 
@@ -143,5 +144,33 @@ public final class FaceTest {
         for (String pattern : banned) {
             CHECKS.due(pattern + " in the text", Pattern.compile(pattern).matcher(code).find(), false);
         }
+    }
+
+    /** "Ahead of the calls .. the interface says: ---- clocks", so the class says it there too. */
+    private static void theCallsStandUnderTheirHeadings() throws IOException {
+        String text = Files.readString(Path.of("src/main/java/TrackFusion.java"));
+        int calls = 0;
+        for (String sentence : new Document().sentences().get("Terms")) {
+            if (sentence.startsWith("Ahead of the calls ")) {
+                String heading = sentence.replaceAll("^.*: (---- [a-z]+)$", "$1");
+                for (String call : sentence.replaceAll("^Ahead of the calls `(.*)` the .*$", "$1").split("`, `")) {
+                    CHECKS.due("the heading of " + call, headingOf(text, call), heading);
+                    calls++;
+                }
+            }
+        }
+        CHECKS.due("calls with a heading", calls, FACE.length);
+    }
+
+    private static String headingOf(String text, String call) {
+        String heading = "none";
+        for (String line : text.split("\n")) {
+            if (line.trim().startsWith("// ---- ")) {
+                heading = line.trim().substring(3);
+            } else if (line.startsWith("    public ") && line.contains(" " + call + "(")) {
+                return heading;
+            }
+        }
+        return "none";
     }
 }

@@ -24,6 +24,41 @@ final class Runs {
         }
     }
 
+    /** Each pair is a time of the sensor and the true one. */
+    static void addPairs(TrackFusion fusion, int sensor, int... times) {
+        for (int i = 0; i < times.length; i += 2) {
+            fusion.addPair(sensor, times[i], times[i + 1]);
+        }
+    }
+
+    /** Takes 79 calls; the last four tracks are live, at 14 on (-900, 600), (-300, 600), (300, 600), (900, 600). */
+    static TrackFusion sixtyBegun() {
+        TrackFusion fusion = with(1, 8, 4, 1, 0);
+        for (int i = 0; i < 15; i++) {
+            int y = i % 2 == 0 ? 600 : -600;
+            processAt(fusion, i, -900, y, -300, y, 300, y, 900, y);
+        }
+        return fusion;
+    }
+
+    /** A track that moves by 8 and 4 sixteenths; at 12 it is at 32 and 16 of them. */
+    static TrackFusion moving(int nearness) {
+        TrackFusion fusion = with(20, 8, 4, 9, nearness);
+        processAt(fusion, 10, 0, 0);
+        processAt(fusion, 12, 4, 2);
+        return fusion;
+    }
+
+    /** A track at 0, so many sixteenths from (0, 0); then the gate is 1, the gain 16, the slope 0, the limit 9. */
+    static TrackFusion atSixteenths(int x, int y) {
+        TrackFusion fusion = with(500, 1, 0, 9, 0);
+        processAt(fusion, 0, 0, 0);
+        processAt(fusion, 0, x, y);
+        fusion.setGate(1);
+        fusion.setFilter(16, 0);
+        return fusion;
+    }
+
     static String state(TrackFusion fusion, int track) {
         return fusion.timeOf(track) + ": " + fusion.stateOf(track, 0) + " " + fusion.stateOf(track, 1) + " "
             + fusion.stateOf(track, 2) + " " + fusion.stateOf(track, 3);

@@ -179,11 +179,9 @@ public final class TracksTest {
         CHECKS.due("state of 4", Runs.state(fusion, 4), "5: 13600 0 0 0");
     }
 
-    /** The first track moves by 8 and 4 sixteenths; at 22 it is predicted at 112 and 56 of them. */
+    /** At 22 the first track is predicted at 112 and 56 sixteenths. */
     private static TrackFusion moving(int nearness) {
-        TrackFusion fusion = Runs.with(20, 8, 4, 9, nearness);
-        Runs.processAt(fusion, 10, 0, 0);
-        Runs.processAt(fusion, 12, 4, 2);
+        TrackFusion fusion = Runs.moving(nearness);
         CHECKS.due("the moving one", Runs.state(fusion, 0), "12: 32 16 8 4");
         fusion.setGate(1);
         return fusion;
