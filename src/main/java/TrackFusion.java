@@ -19,11 +19,10 @@ public final class TrackFusion {
     private static final int QUALITY_SIGNS = 8;
 
     /**
-     * More than 512 calls can fill: they process 256 batches at most, each of which adds one sign, and one more for
-     * each of the 59 other tracks that may be merged into this one.
+     * More than 512 calls can fill: they process 256 batches at most, each of which adds one sign, then one more for
+     * each of the 59 other tracks that may be merged into this one, and one for its end.
      */
     private static final int HISTORY_ROOM = 512;
-    private static final String SIGNS = "nhxlmg";
     private static final char BEGUN = 'n';
     private static final char HIT = 'h';
     private static final char MISSED = 'x';
@@ -82,10 +81,11 @@ public final class TrackFusion {
     }
 
     private Clock clockOf(int sensor) throws IndexOutOfBoundsException {
-        if (sensor < 0 || sensor >= clocks.length) {
+        Clock clock = sensor < 0 || sensor >= clocks.length ? null : clocks[sensor];
+        if (clock == null) {
             throw new IndexOutOfBoundsException("no such sensor");
         }
-        return clocks[sensor];
+        return clock;
     }
 
     // ---- settings
@@ -125,11 +125,12 @@ public final class TrackFusion {
             throws IndexOutOfBoundsException, IllegalArgumentException, IllegalStateException {
         Clock clock = clockOf(sensor);
         refuseUnless(isSensorTime(time) && isPlace(x) && isPlace(y));
-        if (reportCount < 0 || reportCount >= reports.length) {
+        Report free = rowAt(reportCount);
+        if (free == null) {
             throw new IllegalStateException("the batch is full");
         }
         int number = reportCount;
-        reports[number].fill(clock.putRight(time), x, y);
+        free.fill(clock.putRight(time), x, y);
         reportCount = number + 1;
         return number;
     }
@@ -186,10 +187,16 @@ public final class TrackFusion {
     }
 
     private Report reportNumbered(int number) throws IndexOutOfBoundsException {
-        if (number < 0 || number >= reportCount || number >= reports.length) {
+        Report report = number < reportCount ? rowAt(number) : null;
+        if (report == null) {
             throw new IndexOutOfBoundsException("no such report");
         }
-        return reports[number];
+        return report;
+    }
+
+    /** Answers null where the batch has no row, be it filled or not. */
+    private Report rowAt(int number) {
+        return number < 0 || number >= reports.length ? null : reports[number];
     }
 
     /** Answers CANNOT for a report that the track can't take. */
@@ -211,15 +218,26 @@ public final class TrackFusion {
 
     private void prepareMatching() {
         matching.clear(squareOfSixteenths(gate));
-        for (int i = 0; i < begunCount && i < begunTracks.length; i++) {
-            if (begunTracks[i].isLive) {
-                matching.addTrack(begunTracks[i]);
+        for (int i = 0; i < begunCount; i++) {
+            Track track = liveTrackAt(i);
+            if (track != null) {
+                matching.addTrack(track);
             }
         }
-        for (int r = 0; r < reportCount && r < reports.length; r++) {
-            matching.addReport();
-            for (int t = 0; t < matching.trackCount && t < LIVE_ROOM; t++) {
-                matching.costs[r][t] = costOfTaking(reports[r], matching.liveTracks[t]);
+        for (int r = 0; r < reportCount; r++) {
+            Report report = rowAt(r);
+            if (report != null) {
+                matching.addReport();
+                fillCosts(r, report);
+            }
+        }
+    }
+
+    private void fillCosts(int number, Report report) {
+        for (int t = 0; t < matching.trackCount; t++) {
+            Track track = matching.trackAt(t);
+            if (track != null) {
+                matching.putCost(number, t, costOfTaking(report, track));
             }
         }
     }
@@ -266,10 +284,11 @@ public final class TrackFusion {
 
     private int changeTakers() {
         int taken = 0;
-        for (int r = 0; r < reportCount && r < reports.length; r++) {
+        for (int r = 0; r < reportCount; r++) {
+            Report report = rowAt(r);
             Track taker = matching.takerOf(r);
-            if (taker != null) {
-                taker.follow(reports[r], gain, slope);
+            if (report != null && taker != null) {
+                taker.follow(report, gain, slope);
                 taken++;
             }
         }
@@ -277,40 +296,45 @@ public final class TrackFusion {
     }
 
     private void missOthers() {
-        for (int t = 0; t < matching.trackCount && t < LIVE_ROOM; t++) {
-            if (!matching.hasReportFor(t)) {
-                matching.liveTracks[t].miss(limit);
+        for (int t = 0; t < matching.trackCount; t++) {
+            Track track = matching.trackAt(t);
+            if (track != null && !matching.hasReportFor(t)) {
+                track.miss(limit);
             }
         }
     }
 
     private void beginTracks() {
-        int live = countLive();
-        for (int r = 0; r < reportCount && r < reports.length; r++) {
-            if (matching.takerOf(r) == null) {
-                if (live >= LIVE_ROOM || begunCount < 0 || begunCount >= begunTracks.length) {
-                    droppedReports++;
-                } else {
-                    begunTracks[begunCount] = new Track(begunCount, reports[r]);
-                    begunCount++;
-                    live++;
-                }
+        for (int r = 0; r < reportCount; r++) {
+            Report report = rowAt(r);
+            if (report != null && matching.takerOf(r) == null) {
+                beginOrDrop(report);
             }
         }
     }
 
+    private void beginOrDrop(Report report) {
+        if (countLive() >= LIVE_ROOM || begunCount < 0 || begunCount >= begunTracks.length) {
+            droppedReports++;
+        } else {
+            begunTracks[begunCount] = new Track(begunCount, report);
+            begunCount++;
+        }
+    }
+
     private void mergeTracks() {
-        for (int i = 0; i < begunCount && i < begunTracks.length; i++) {
-            if (begunTracks[i].isLive) {
-                mergeLaterOnesInto(begunTracks[i]);
+        for (int i = 0; i < begunCount; i++) {
+            Track keeper = liveTrackAt(i);
+            if (keeper != null) {
+                mergeLaterOnesInto(keeper);
             }
         }
     }
 
     private void mergeLaterOnesInto(Track keeper) {
-        for (int i = 0; i < begunCount && i < begunTracks.length; i++) {
-            Track other = begunTracks[i];
-            if (other.number > keeper.number && other.isLive && areNear(keeper, other)) {
+        for (int i = keeper.number + 1; i < begunCount; i++) {
+            Track other = liveTrackAt(i);
+            if (other != null && areNear(keeper, other)) {
                 keeper.absorb(other);
                 other.mergeInto(keeper);
             }
@@ -397,7 +421,7 @@ public final class TrackFusion {
     }
 
     public int countOf(char sign) throws IllegalArgumentException {
-        refuseUnless(SIGNS.indexOf(sign) >= 0);
+        refuseUnless(isSign(sign));
         return countSigns(sign);
     }
 
@@ -405,9 +429,9 @@ public final class TrackFusion {
         refuseUnless(isAskedTime(time) && isPlace(x) && isPlace(y));
         int best = NONE;
         long least = 0L;
-        for (int i = 0; i < begunCount && i < begunTracks.length; i++) {
-            Track track = begunTracks[i];
-            if (track.isLive) {
+        for (int i = 0; i < begunCount; i++) {
+            Track track = liveTrackAt(i);
+            if (track != null) {
                 long apart = squareSum(WHOLE * x - track.xAt(time), WHOLE * y - track.yAt(time));
                 if (best == NONE || apart < least) {
                     best = i;
@@ -422,23 +446,36 @@ public final class TrackFusion {
     }
 
     private Track trackNumbered(int number) throws IndexOutOfBoundsException {
-        if (number < 0 || number >= begunCount || number >= begunTracks.length) {
+        Track track = trackAt(number);
+        if (track == null) {
             throw new IndexOutOfBoundsException("no such track");
         }
-        return begunTracks[number];
+        return track;
     }
 
     private Track liveNumbered(int number) throws NoSuchElementException {
-        if (number < 0 || number >= begunCount || number >= begunTracks.length || !begunTracks[number].isLive) {
+        Track track = liveTrackAt(number);
+        if (track == null) {
             throw new NoSuchElementException("no such live track");
         }
-        return begunTracks[number];
+        return track;
+    }
+
+    /** Answers null if no such track was begun. */
+    private Track trackAt(int number) {
+        return number < 0 || number >= begunTracks.length ? null : begunTracks[number];
+    }
+
+    /** Answers null if there is no such live track. */
+    private Track liveTrackAt(int number) {
+        Track track = trackAt(number);
+        return track == null || !track.isLive ? null : track;
     }
 
     private int countLive() {
         int live = 0;
-        for (int i = 0; i < begunCount && i < begunTracks.length; i++) {
-            if (begunTracks[i].isLive) {
+        for (int i = 0; i < begunCount; i++) {
+            if (liveTrackAt(i) != null) {
                 live++;
             }
         }
@@ -447,8 +484,11 @@ public final class TrackFusion {
 
     private int countSigns(char sign) {
         int count = 0;
-        for (int i = 0; i < begunCount && i < begunTracks.length; i++) {
-            count += begunTracks[i].countSince(0, sign);
+        for (int i = 0; i < begunCount; i++) {
+            Track track = trackAt(i);
+            if (track != null) {
+                count += track.countSince(0, sign);
+            }
         }
         return count;
     }
@@ -473,10 +513,11 @@ public final class TrackFusion {
     public double meanHits() throws ArithmeticException {
         int live = 0;
         int sum = 0;
-        for (int i = 0; i < begunCount && i < begunTracks.length; i++) {
-            if (begunTracks[i].isLive) {
+        for (int i = 0; i < begunCount; i++) {
+            Track track = liveTrackAt(i);
+            if (track != null) {
                 live++;
-                sum += begunTracks[i].hitCount;
+                sum += track.hitCount;
             }
         }
         if (live == 0) {
@@ -507,6 +548,10 @@ public final class TrackFusion {
 
     private static boolean isPlace(int coordinate) {
         return isWithin(coordinate, -FARTHEST_PLACE, FARTHEST_PLACE);
+    }
+
+    private static boolean isSign(char sign) {
+        return sign == BEGUN || sign == HIT || sign == MISSED || sign == LOST || sign == MERGED || sign == GAINED;
     }
 
     private static long squareSum(int first, int second) {
@@ -671,7 +716,7 @@ public final class TrackFusion {
     private static final class Matching {
         int reportCount;
         int trackCount;
-        final Track[] liveTracks = new Track[LIVE_ROOM];
+        private final Track[] liveTracks = new Track[LIVE_ROOM];
         final long[][] costs = new long[BATCH_ROOM][LIVE_ROOM];
         long costOfNone;
         final int[] choice = new int[BATCH_ROOM];
@@ -697,6 +742,17 @@ public final class TrackFusion {
             }
         }
 
+        void putCost(int report, int track, long cost) {
+            if (report >= 0 && report < BATCH_ROOM && track >= 0 && track < LIVE_ROOM) {
+                costs[report][track] = cost;
+            }
+        }
+
+        /** Answers null where there is no track. */
+        Track trackAt(int track) {
+            return track < 0 || track >= trackCount || track >= liveTracks.length ? null : liveTracks[track];
+        }
+
         void keepChoice(long cost) {
             leastCost = cost;
             System.arraycopy(choice, 0, bestChoice, 0, BATCH_ROOM);
@@ -707,8 +763,7 @@ public final class TrackFusion {
             if (report < 0 || report >= reportCount || report >= bestChoice.length) {
                 return null;
             }
-            int track = bestChoice[report];
-            return track < 0 || track >= trackCount || track >= liveTracks.length ? null : liveTracks[track];
+            return trackAt(bestChoice[report]);
         }
 
         boolean hasReportFor(int track) {
