@@ -330,6 +330,23 @@ final class BatchEdges {
         edges.due("distance(0, 0)", wide.distance(0, 0), 64000001L);
         edges.due("one more than the greatest square", wide.canTake(0, 0), false);
         edges.due("less than the greatest square", wide.canTake(1, 0), true);
+        for (int x = 0; x <= 17; x++) {
+            for (int y = -17; y <= 0; y++) {
+                withinGateOfOne(edges, x, y);
+            }
+        }
+    }
+
+    private static void withinGateOfOne(Edges edges, int x, int y) {
+        TrackFusion fusion = Runs.atSixteenths(x, y);
+        fusion.report(0, 0, 0, 0);
+        long apart = x * x + y * y;
+        String from = " from " + x + " and " + y;
+        edges.due("distance" + from, fusion.distance(0, 0), apart);
+        edges.due("canTake" + from, fusion.canTake(0, 0), apart <= 256);
+        edges.due("goesTo" + from, fusion.goesTo(0), apart <= 256 ? 0 : -1);
+        edges.due("bestCost" + from, fusion.bestCost(), Math.min(apart, 256L));
+        edges.due("bestCostByTrying" + from, fusion.bestCostByTrying(), Math.min(apart, 256L));
     }
 
     @Sentence(of = "Promise 13",

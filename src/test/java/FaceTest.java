@@ -56,7 +56,12 @@ public final class FaceTest {
         theClassHasTheFaceOfTheDocument();
         nothingElseIsVisible();
         classesInsideAreStaticAndFew();
+        fieldsAreOfTheLanguage(TrackFusion.class);
+        for (Class<?> one : TrackFusion.class.getDeclaredClasses()) {
+            fieldsAreOfTheLanguage(one);
+        }
         theTextKeepsToTheLanguage();
+        methodsAreShort();
         theCallsStandUnderTheirHeadings();
         CHECKS.end("FaceTest");
     }
@@ -106,15 +111,9 @@ public final class FaceTest {
         }
         publicNames.retainAll(privateNames);
         CHECKS.due("names that are public and private", publicNames.toString(), "[]");
-        int fields = 0;
         for (Field field : TrackFusion.class.getDeclaredFields()) {
             CHECKS.due(field.getName() + " is private", Modifier.isPrivate(field.getModifiers()), true);
-            boolean isStatic = Modifier.isStatic(field.getModifiers());
-            fields += isStatic ? 0 : 1;
-            CHECKS.due(field.getName() + " is not a changing static one",
-                !isStatic || Modifier.isFinal(field.getModifiers()), true);
         }
-        CHECKS.due("at most twenty fields", fields <= 20, true);
     }
 
     private static void classesInsideAreStaticAndFew() {
@@ -129,6 +128,47 @@ public final class FaceTest {
                 CHECKS.due(method.getName() + " has at most seven parameters", method.getParameterCount() <= 7, true);
             }
         }
+    }
+
+    /** Rules 3, 5 and 11: the types of fields, what is static is a constant, and some twenty fields beside them. */
+    private static void fieldsAreOfTheLanguage(Class<?> one) {
+        int changing = 0;
+        for (Field field : one.getDeclaredFields()) {
+            String name = one.getSimpleName() + "." + field.getName();
+            Class<?> type = field.getType();
+            if (Modifier.isStatic(field.getModifiers())) {
+                CHECKS.due(name + " is final", Modifier.isFinal(field.getModifiers()), true);
+                CHECKS.due(name + " is of a type for constants", type == String.class
+                    || Set.of("int", "long", "boolean", "char").contains(type.getName()), true);
+            } else {
+                changing++;
+                CHECKS.due(name + " is of a type of the language", isOfTheLanguage(type), true);
+            }
+        }
+        CHECKS.due("at most twenty fields in " + one.getSimpleName(), changing <= 20, true);
+    }
+
+    private static boolean isOfTheLanguage(Class<?> type) {
+        Class<?> part = type.isArray() ? type.getComponentType() : type;
+        if (part.isArray()) {
+            return part.getComponentType().isPrimitive();
+        }
+        return part.isPrimitive() || part == String.class || part.getDeclaringClass() == TrackFusion.class;
+    }
+
+    /** Rule 11: a method ends at the first brace that stands as far left as its beginning. */
+    private static void methodsAreShort() throws IOException {
+        List<String> lines = Files.readAllLines(Path.of("src/main/java/TrackFusion.java"));
+        int methods = 0;
+        for (int i = 0; i < lines.size(); i++) {
+            if (lines.get(i).matches(" {4,8}[a-zA-Z].*\\(.*[^;]") && !lines.get(i).matches(" *(if|for|while|switch).*")) {
+                String end = lines.get(i).replaceAll("\\S.*", "}");
+                int length = lines.subList(i, lines.size()).indexOf(end);
+                CHECKS.due("a method of at most sixty lines: " + lines.get(i), length > 0 && length < 60, true);
+                methods++;
+            }
+        }
+        CHECKS.due("methods that were found", methods > FACE.length, true);
     }
 
     private static void theTextKeepsToTheLanguage() throws IOException {
